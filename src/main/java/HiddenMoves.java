@@ -39,8 +39,12 @@ public final class HiddenMoves {
     private static final int ROOM = 32;
     private static final int DOUBLE_ROOM = 2 * ROOM;
 
+    /** 32 bits are fewer than 10 decimal digits; two numbers, a sign and a stroke. */
+    private static final int PRINT_LIMIT = 2 * 10 * ROOM + 2;
+
     private final Words text = new Words();
-    private final Printer printer = new Printer();
+    private final char[] printed = new char[PRINT_LIMIT];
+    private int printedLength = 0;
     private final Solver solver = new Solver();
     private final Way[] ways = new Way[PLAYERS];
     private final Mix[] told = new Mix[PLAYERS];
@@ -183,12 +187,12 @@ public final class HiddenMoves {
         if (!isKnown(what)) {
             return NONE;
         }
-        printer.write(results[what]);
-        return printer.length;
+        printedLength = results[what].write(printed);
+        return printedLength;
     }
 
     public int character(int i) {
-        return i >= 0 && i < printer.length ? printer.characters[i] : NONE;
+        return i >= 0 && i < printedLength ? printed[i] : NONE;
     }
 
     public int compare(int what, int with) {
@@ -358,12 +362,6 @@ public final class HiddenMoves {
             }
         }
 
-        void minus(Big less) {
-            negate();
-            plus(less);
-            negate();
-        }
-
         /** The sizes' sum; this may be one of the two. */
         private void putSum(Big longer, Big shorter) {
             int used = Math.min(longer.length, digits.length);
@@ -387,7 +385,7 @@ public final class HiddenMoves {
         }
 
         /** The sizes' difference; this may be one of the two. */
-        private void putDifference(Big greater, Big lesser) {
+        void putDifference(Big greater, Big lesser) {
             int used = Math.min(greater.length, digits.length);
             int both = Math.min(lesser.length, used);
             long borrow = 0;
@@ -577,7 +575,7 @@ public final class HiddenMoves {
                     return;
                 }
                 Big greater = order > 0 ? first : second;
-                greater.minus(order > 0 ? second : first);
+                greater.putDifference(greater, order > 0 ? second : first);
                 greater.shiftDown(greater.lowZeros());
             }
         }
@@ -587,64 +585,37 @@ public final class HiddenMoves {
             second.putProduct(with.top, bottom);
             return first.order(second);
         }
-    }
 
-    /** What was printed latest. */
-    private static final class Printer {
-        private static final int PIECE = 1000000000;
-        private static final int PIECE_DIGITS = 9;
-
-        /** 32 bits have fewer than 10 decimal digits; two numbers, a sign and a stroke. */
-        final char[] characters = new char[2 * 10 * ROOM + 2];
-        int length = 0;
-        private final int[] pieces = new int[2 * ROOM];
-        private final Big rest = new Big(ROOM);
-
-        void write(Ratio ratio) {
-            length = 0;
-            if (ratio.top.below) {
-                put('-');
-            }
-            writeSize(ratio.top);
-            if (!ratio.bottom.isOne()) {
-                put('/');
-                writeSize(ratio.bottom);
-            }
-        }
-
-        private void put(char c) {
-            if (length < characters.length) {
-                characters[length] = c;
-                length++;
-            }
-        }
-
-        private void writeSize(Big number) {
-            rest.copy(number);
+        /** How many characters it puts there. */
+        int write(char[] there) {
             int used = 0;
-            for (int i = 0; i < pieces.length && (i == 0 || rest.length > 0); i++) {
-                pieces[i] = rest.divideBySmall(PIECE);
-                used = i + 1;
+            if (top.below) {
+                there[0] = '-';
+                used = 1;
             }
-            boolean begun = false;
-            for (int i = used - 1; i >= 0; i--) {
-                begun = writePiece(pieces[i], begun, i == 0);
+            used = writeSize(top, there, used);
+            if (!bottom.isOne() && used < there.length) {
+                there[used] = '/';
+                used = writeSize(bottom, there, used + 1);
             }
+            return used;
         }
 
-        /** Zeros count only behind another digit, or as the very last one. */
-        private boolean writePiece(int piece, boolean begunBefore, boolean last) {
-            boolean begun = begunBefore;
-            int unit = PIECE / 10;
-            for (int i = 0; i < PIECE_DIGITS; i++) {
-                int digit = piece / unit % 10;
-                begun = begun || digit != 0 || last && i == PIECE_DIGITS - 1;
-                if (begun) {
-                    put((char) ('0' + digit));
-                }
-                unit = Math.max(unit / 10, 1);
+        /** Behind the used ones: how many are used then. */
+        private int writeSize(Big number, char[] there, int used) {
+            first.copy(number);
+            int end = used;
+            // The digits come out lowest first, so they are turned round when all are there.
+            for (int i = used; i < there.length && (i == used || first.length > 0); i++) {
+                there[i] = (char) ('0' + first.divideBySmall(10));
+                end = i + 1;
             }
-            return begun;
+            for (int i = used, j = end - 1; i < j; i++, j--) {
+                char c = there[i];
+                there[i] = there[j];
+                there[j] = c;
+            }
+            return end;
         }
     }
 
@@ -901,7 +872,7 @@ public final class HiddenMoves {
         private final Words words;
         private Game game;
         /** For each open bracket whether it is a draw's. */
-        private final boolean[] isDrawOpen = new boolean[TEXT_LIMIT];
+        private final boolean[] isDrawOpen = new boolean[TEXT_LIMIT / 2];
         private int open = 0;
         private boolean isInEnd = false;
         private long fractionTop = 0;
@@ -1671,7 +1642,8 @@ public final class HiddenMoves {
             left.putProduct(cell, pivot);
             if (changes) {
                 right.putProduct(inColumn, inRow);
-                left.minus(right);
+                right.negate();
+                left.plus(right);
             }
             divider.divide(left);
             cell.copy(left);
