@@ -7,6 +7,8 @@ import java.util.Random;
 /** Games by a fixed row of numbers, each compared with the reference. Arguments: how many, first seed. */
 public final class RandomTest {
     private static final Checks CHECKS = new Checks();
+    /** Used again and again, so that what an earlier game leaves behind would show. */
+    private static final HiddenMoves USED = new HiddenMoves();
     private static final String CHARACTERS = " 0123456789AB?()[]:,-/x";
 
     private final Random random;
@@ -172,7 +174,7 @@ public final class RandomTest {
             return false;
         }
         Reference want = new Reference(text);
-        HiddenMoves x = new HiddenMoves();
+        HiddenMoves x = random.nextInt(4) == 0 ? new HiddenMoves() : USED;
         CHECKS.due("fault of " + text, Checks.read(x, text), want.fault);
         CHECKS.due("place in " + text, x.place(), want.place);
         if (want.fault == 0) {
