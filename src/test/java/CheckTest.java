@@ -1,4 +1,5 @@
 import java.math.BigInteger;
+import java.util.Arrays;
 
 /** Promise 18 from the other side: if what was found did not hold, check() would tell 0. */
 public final class CheckTest {
@@ -10,7 +11,8 @@ public final class CheckTest {
         for (int player = 0; player < 2; player++) {
             worseMix(player);
             noMix(player);
-            partBelow(player);
+            noMixOfZeros(player);
+            noMixBehind(player);
         }
         CHECKS.finish();
     }
@@ -59,12 +61,31 @@ public final class CheckTest {
         CHECKS.due("no mix", x.check(), 0);
     }
 
-    private static void partBelow(int player) {
-        HiddenMoves x = Checks.game("A1(B1([0],[0]),B1([0],[0]))");
-        x.solve();
-        put(part(x, player, 0), 1);
-        put(part(x, player, 1), 2);
-        put(part(x, player, 2), -1);
-        CHECKS.due("a part below 0", x.check(), 0);
+    /** Where all ends are 0 anything would get the value: so it shows whether it is looked at as a mix at all. */
+    private static void noMixOfZeros(int player) {
+        int[][] wrong = {{1, 2, -1}, {1, 1, 1}, {2, 1, 0}, {1, 0, 0}, {0, 0, 0}, {-1, -1, 0}};
+        for (int[] parts : wrong) {
+            HiddenMoves x = Checks.game("A1(B1([0],[0]),B1([0],[0]))");
+            x.solve();
+            CHECKS.due("as found", x.check(), 1);
+            for (int i = 0; i < 3; i++) {
+                put(part(x, player, i), parts[i]);
+            }
+            CHECKS.due("parts " + Arrays.toString(parts), x.check(), 0);
+        }
+    }
+
+    /** The second set is behind a move of the first, so its parts are that move's part together. */
+    private static void noMixBehind(int player) {
+        String text = player == 0 ? "A1([0],A2([0],[0]))" : "B1([0],B2([0],[0]))";
+        int[][] parts = {{4, 1, 3, 2, 1}, {4, 1, 3, 3, 1}, {4, 1, 3, 0, 2}, {4, 1, 3, 4, -1}, {4, 2, 3, 2, 1}};
+        for (int i = 0; i < parts.length; i++) {
+            HiddenMoves x = Checks.game(text);
+            x.solve();
+            for (int j = 0; j < 5; j++) {
+                put(part(x, player, j), parts[i][j]);
+            }
+            CHECKS.due("parts behind a move " + Arrays.toString(parts[i]), x.check(), i == 0 ? 1 : 0);
+        }
     }
 }

@@ -4,6 +4,12 @@ import java.util.Arrays;
 final class Checks {
     private int wrong = 0;
     private int looked = 0;
+    private String sentence = "";
+
+    /** The sentence of the document that the next answers are about; it is told with those that are wrong. */
+    void sentence(String words) {
+        sentence = words;
+    }
 
     void due(String what, long got, long want) {
         looked++;
@@ -37,7 +43,7 @@ final class Checks {
     private void tellWrong(String line) {
         wrong++;
         if (wrong <= 40) {
-            System.out.println(line);
+            System.out.println(sentence.isEmpty() ? line : line + "  << " + sentence + " >>");
         }
     }
 
@@ -61,6 +67,18 @@ final class Checks {
                 throw new IllegalStateException("can't type " + text);
             }
         }
+    }
+
+    /** Reads the text with a new object. */
+    void fault(String text, int fault, int place) {
+        HiddenMoves x = new HiddenMoves();
+        due("fault of " + text, read(x, text), fault);
+        due("place in " + text, x.place(), place);
+        due("the text is gone: " + text, x.type('[', 1), 1);
+    }
+
+    void fine(String text) {
+        fault(text, 0, -1);
     }
 
     static int read(HiddenMoves x, String text) {

@@ -87,14 +87,11 @@ public final class ReadTest {
     }
 
     private static void fault(String text, int fault, int place) {
-        HiddenMoves x = new HiddenMoves();
-        CHECKS.due("fault of " + text, Checks.read(x, text), fault);
-        CHECKS.due("place in " + text, x.place(), place);
-        CHECKS.due("the text is gone: " + text, x.type('[', 1), 1);
+        CHECKS.fault(text, fault, place);
     }
 
     private static void fine(String text) {
-        fault(text, 0, -1);
+        CHECKS.fine(text);
     }
 
     private static void noneOfIt() {
