@@ -42,7 +42,7 @@ public final class HiddenMoves {
     /** 32 bits are fewer than 10 decimal digits; two numbers, a sign and a stroke. */
     private static final int PRINT_LIMIT = 2 * 10 * ROOM + 2;
 
-    private final Words text = new Words();
+    private final Reader reader = new Reader();
     private final char[] printed = new char[PRINT_LIMIT];
     private int printedLength = 0;
     private final Solver solver = new Solver();
@@ -56,8 +56,6 @@ public final class HiddenMoves {
     private final Big sum = new Big(ROOM);
     private final Big whole = new Big(ROOM);
     private Game game = new Game();
-    private Game draft = new Game();
-    private final Reader reader = new Reader(text, draft);
     private boolean hasGame = false;
     private int faultPlace = NONE;
 
@@ -74,17 +72,15 @@ public final class HiddenMoves {
     }
 
     public int type(long characters, int n) {
-        return text.append(characters, n) ? text.length : NONE;
+        return reader.words.append(characters, n) ? reader.words.length : NONE;
     }
 
     public int read() {
-        int fault = reader.understand(draft);
+        int fault = reader.understand();
         faultPlace = reader.faultPlace;
-        text.length = 0;
+        reader.words.length = 0;
         if (fault == 0) {
-            Game old = game;
-            game = draft;
-            draft = old;
+            game = reader.exchange(game);
             hasGame = true;
             startAnew();
         }
@@ -267,8 +263,12 @@ public final class HiddenMoves {
 
     /** Both above 0. */
     private static long lcm(long a, long b) {
-        long common = gcd(a, b);
-        return common == 0 ? 0 : a / common * b;
+        return quotient(a, gcd(a, b)) * b;
+    }
+
+    /** No divisor is ever 0; it is looked at all the same, so that no call can throw by itself. */
+    private static long quotient(long number, long divisor) {
+        return divisor == 0 ? 0 : number / divisor;
     }
 
     /** A whole number of any sign: its size in digits of 32 bits, the lowest first. */
@@ -869,8 +869,8 @@ public final class HiddenMoves {
 
         int faultPlace = NONE;
         private int fault = 0;
-        private final Words words;
-        private Game game;
+        final Words words = new Words();
+        private Game game = new Game();
         /** For each open bracket whether it is a draw's. */
         private final boolean[] isDrawOpen = new boolean[TEXT_LIMIT / 2];
         private int open = 0;
@@ -883,13 +883,14 @@ public final class HiddenMoves {
         private final int[] endDeedsOfA = new int[NODE_LIMIT];
         private final int[] endDeedsOfB = new int[NODE_LIMIT];
 
-        Reader(Words words, Game game) {
-            this.words = words;
-            this.game = game;
+        /** Gives the game that was made; the old one is used for the next text. */
+        Game exchange(Game old) {
+            Game made = game;
+            game = old;
+            return made;
         }
 
-        int understand(Game into) {
-            game = into;
+        int understand() {
             game.clear();
             fault = 0;
             faultPlace = NONE;
@@ -1026,10 +1027,10 @@ public final class HiddenMoves {
             }
             words.advance();
             int end = Math.min(game.counts[Game.ENDS], NODE_LIMIT - 1);
-            long sharedAbove = Math.max(gcd(top, fractionBottom), 1);
-            long sharedBelow = Math.max(gcd(fractionTop, bottom), 1);
-            endTops[end] = top / sharedAbove * (fractionTop / sharedBelow);
-            endBottoms[end] = bottom / sharedBelow * (fractionBottom / sharedAbove);
+            long sharedAbove = gcd(top, fractionBottom);
+            long sharedBelow = gcd(fractionTop, bottom);
+            endTops[end] = quotient(top, sharedAbove) * quotient(fractionTop, sharedBelow);
+            endBottoms[end] = quotient(bottom, sharedBelow) * quotient(fractionBottom, sharedAbove);
             endDeedsOfA[end] = deedOfA;
             endDeedsOfB[end] = deedOfB;
             game.counts[Game.ENDS]++;
@@ -1054,9 +1055,9 @@ public final class HiddenMoves {
             if (bottom == 0 || ofDraw && (top <= 0 || top > bottom)) {
                 return refuse(NUMBER, begin);
             }
-            long shared = Math.max(gcd(top, bottom), 1);
-            fractionTop = top / shared;
-            fractionBottom = bottom / shared;
+            long shared = gcd(top, bottom);
+            fractionTop = quotient(top, shared);
+            fractionBottom = quotient(bottom, shared);
             return true;
         }
 
@@ -1079,13 +1080,15 @@ public final class HiddenMoves {
                 // Once too large it is left as it is, so that it can't outgrow a long.
                 if (multiple < TOO_LARGE) {
                     long next = lcm(multiple, fractionBottom);
-                    sum = sum * (next / multiple) + fractionTop * (next / fractionBottom);
+                    sum = sum * quotient(next, multiple) + fractionTop * quotient(next, fractionBottom);
                     multiple = next;
                 }
                 long nextTop = top * fractionTop;
                 long nextBottom = bottom * fractionBottom;
-                long shared = Math.max(gcd(nextTop, nextBottom), 1);
-                if (!goThroughNode(above + 1, nextTop / shared, nextBottom / shared, deedOfA, deedOfB)) {
+                long shared = gcd(nextTop, nextBottom);
+                nextTop = quotient(nextTop, shared);
+                nextBottom = quotient(nextBottom, shared);
+                if (!goThroughNode(above + 1, nextTop, nextBottom, deedOfA, deedOfB)) {
                     return false;
                 }
                 drawn++;
@@ -1196,7 +1199,7 @@ public final class HiddenMoves {
 
         private boolean fillWeights() {
             for (int i = 0; i < game.counts[Game.ENDS]; i++) {
-                long weight = game.common / endBottoms[i] * endTops[i];
+                long weight = quotient(game.common, endBottoms[i]) * endTops[i];
                 if (Math.abs(weight) >= TOO_LARGE) {
                     return false;
                 }
@@ -1258,9 +1261,9 @@ public final class HiddenMoves {
         }
 
         void putChance(int set, int move, int top, int bottom) {
-            int shared = (int) Math.max(gcd(top, bottom), 1);
-            tops[set * MOVE_LIMIT + move] = top / shared;
-            bottoms[set * MOVE_LIMIT + move] = bottom / shared;
+            long shared = gcd(top, bottom);
+            tops[set * MOVE_LIMIT + move] = (int) quotient(top, shared);
+            bottoms[set * MOVE_LIMIT + move] = (int) quotient(bottom, shared);
         }
 
         boolean isGood(Side side) {
@@ -1291,7 +1294,7 @@ public final class HiddenMoves {
 
         private long topOf(int set, int move, long bottom) {
             int i = set * MOVE_LIMIT + move;
-            return bottoms[i] == 0 ? 0 : bottom / bottoms[i] * tops[i];
+            return quotient(bottom, bottoms[i]) * tops[i];
         }
 
         /** The way is good. */
